@@ -641,11 +641,9 @@ public final class DogJudge {
             came = other.came;
             sausageDay = other.sausageDay;
             found = other.found;
-            for (int i = 0; i < THINGS; i++) tastes[i] = other.tastes[i];
-            for (int i = 0; i < HEIRS_MOST; i++) {
-                liking[i] = other.liking[i];
-                last[i] = other.last[i];
-            }
+            System.arraycopy(other.tastes, 0, tastes, 0, THINGS);
+            System.arraycopy(other.liking, 0, liking, 0, HEIRS_MOST);
+            System.arraycopy(other.last, 0, last, 0, HEIRS_MOST);
         }
     }
 

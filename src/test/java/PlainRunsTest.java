@@ -11,11 +11,11 @@ public final class PlainRunsTest {
     private final PlainJudge plain = new PlainJudge();
     private final StringBuilder told = new StringBuilder();
     private final int run;
-    private long lot;
+    private final Lots lots;
 
     private PlainRunsTest(int run) {
         this.run = run;
-        this.lot = 7919L * run + 12345;
+        this.lots = new Lots(run);
     }
 
     public static void main(String[] args) {
@@ -27,8 +27,7 @@ public final class PlainRunsTest {
     }
 
     private int upTo(int most) {
-        lot = lot * 6364136223846793005L + 1442695040888963407L;
-        return (int) ((lot >>> 33) % (most + 1));
+        return lots.upTo(most);
     }
 
     /** A number of least to most, now and then one outside. */
@@ -164,7 +163,7 @@ public final class PlainRunsTest {
                 due("heard(" + c + ", " + a + ", " + thing + ", " + day + ")", judge.heard(c, a, thing, day), plain.heard(c, a, thing, day));
                 break;
             default: {
-                int seed = upTo(1) == 0 ? upTo(100) : (int) lot, n = about(1, 30), heir = about(-1, many);
+                int seed = upTo(1) == 0 ? upTo(100) : lots.anyInt(), n = about(1, 30), heir = about(-1, many);
                 due("weeks(" + seed + ", " + n + ", " + heir + ")", judge.weeks(seed, n, heir), plain.weeks(seed, n, heir));
             }
         }
@@ -180,7 +179,7 @@ public final class PlainRunsTest {
             }
             case 2: if (upTo(2) == 0) due("lose(" + s + ")", judge.lose(s), plain.lose(s)); break;
             case 3: case 4: case 5: {
-                int v = upTo(3) == 0 ? (int) lot : upTo(5);
+                int v = upTo(3) == 0 ? lots.anyInt() : upTo(5);
                 due("put(" + s + ", " + form + ", " + i + ", " + v + ")", judge.put(s, form, i, v), plain.put(s, form, i, v));
                 break;
             }

@@ -473,6 +473,10 @@ public final class PromiseTest {
     }
 
     private static void firstOfLikeDays() {
+        // Day 0: 4 to 4, the least; day 1 like it, but by habit: 5 to 7.
+        DogJudge y = come(heirs("200;004"), 0, 0, SAUSAGE, 0, 1, STICK, 1, 0, SAUSAGE, 1, 1, STICK);
+        due(1, y.quarrel(0));
+        due(0, y.quarrel(1));
         DogJudge x = heirs("010;030");
         x.set(0, 0);
         come(x, 0, 0, COAT, 1, 0, COAT, 2, 1, COAT, 3, 0, COAT, 4, 0, COAT);
@@ -548,6 +552,7 @@ public final class PromiseTest {
     /** "200;300", heir 0 with a sausage on day 0 (4): heir 1 gets 3 for one up to day 3, 6 on day 4. */
     private static void suitByDays() {
         DogJudge x = come(heirs("200;300"), 0, 0, SAUSAGE);
+        x.taste(1, SAUSAGE, 0);
         due(1, x.suit(1, 5, NONE));
         due(12, x.suit(1, 5, 0));
         due(NONE, x.suit(1, 5, 1));
@@ -620,6 +625,16 @@ public final class PromiseTest {
         // A sausage ahead of the other's: told behind all others of the day, so it is only 3.
         DogJudge w = come(heirs("300;200"), 0, 1, SAUSAGE);
         due(0, w.replies(0, 1, 1, 0));
+        // By the other one's bringing nothing alone (4) heir 2 is found behind day 1 (6), and stays on day 2 (6 to 6).
+        DogJudge v = come(heirs("060;090;060"), 0, 1, COAT, 1, 2, COAT, 2, 2, STICK);
+        v.set(0, 9);
+        v.set(2, 5);
+        due(0, v.replies(0, 1, 3, 0));
+        due(NONE, v.replies(0, 1, 3, 1));
+        v.visit(1, 1, COAT);
+        due(1, v.replies(0, 1, 3, 0));
+        v.taste(1, COAT, 0);
+        due(1, v.replies(0, 1, 3, 0));
         // Found without more: a second coat grows by nothing, and any thing does.
         due(0, come(heirs("010;090"), 0, 0, COAT).replies(0, 1, 1, 1));
     }
@@ -729,6 +744,7 @@ public final class PromiseTest {
         due(67, x.trainer());
         x.seen(0, 1);
         due(2, x.trainer());
+        x.taste(1, COAT, 9);
         x.set(4, 0);
         due(0, x.trainer());
         x.forget();
@@ -765,6 +781,7 @@ public final class PromiseTest {
     private static void chance() {
         promise(25);
         DogJudge x = come(heirs("111;111"), 0, 0, COAT);
+        x.taste(1, COAT, 0);
         due(3, x.chance(4, 0, 0, 0));
         due(4, x.chance(4, 0, 0, 1));
         due(0, x.chance(4, 1, 9, 0));
@@ -804,6 +821,7 @@ public final class PromiseTest {
     private static void heard() {
         promise(26);
         DogJudge x = come(heirs("100;030"), 0, 1, COAT);
+        x.taste(1, SAUSAGE, 0);
         due(1, x.heard(4, 0, SAUSAGE, 2));
         due(0, x.heard(4, 0, SAUSAGE, 0));
         due(0, x.heard(0, 0, SAUSAGE, 2));
@@ -835,6 +853,7 @@ public final class PromiseTest {
     private static void weeks() {
         promise(27);
         DogJudge x = heirs("123;456");
+        for (int thing = 0; thing < 3; thing++) x.taste(1, thing, 0);
         due(0, x.weeks(0, 1, NONE));
         due(0, x.weeks(0, 5, NONE));
         due(1, x.weeks(0, 6, NONE));
@@ -878,9 +897,11 @@ public final class PromiseTest {
         due(SIZE, x.sheet(3, 1, LEAST));
         due(5, x.count(8));
         x.put(3, 2, 47, 77);
+        x.put(3, 2, 0, 66);
         due(77, x.get(3, 2, 47));
         due(48, x.sheet(3, 2, 48));
         due(0, x.get(3, 2, 47));
+        due(0, x.get(3, 2, 0));
         due(2, x.sheet(3, 1, 2));
         due(2, x.lose(3));
         due(0, x.lose(0));
@@ -983,10 +1004,17 @@ public final class PromiseTest {
         due(INDEX, x.copy(0, 0, 1, 4, 0));
         due(INDEX, x.copy(0, 0, 1, 0, 4));
         due(INDEX, x.copy(0, 3, 1, 0, 3));
+        due(INDEX, x.copy(1, 1, 0, 0, 3));
         due(INDEX, x.copy(0, MOST, 1, 0, MOST));
         due(INDEX, x.copy(0, 1, 1, 1, MOST));
         due(2, x.count(8));
         due(9, x.get(1, 0, 0));
+        due(1, x.copy(1, 0, 0, 2, 3));
+        due(9, x.get(0, 0, 2));
+        due(1, x.copy(0, 0, 0, 0, 5));
+        due(1, x.copy(0, 0, 1, 0, 3));
+        due(2, x.get(1, 0, 0));
+        due(9, x.get(1, 0, 2));
     }
 
     private static void write() {
@@ -1055,6 +1083,25 @@ public final class PromiseTest {
         x.set(3, 4);
         x.set(2, 1);
         due(digestByHand(x), x.digest());
+        for (int state = 0; state < 200; state++) {
+            DogJudge y = someState(state);
+            due(digestByHand(y), y.digest());
+        }
+    }
+
+    /** States of many kinds, by a fixed row of lots, so that what a digest mixes differs from its neighbours. */
+    private static DogJudge someState(int number) {
+        Lots lots = new Lots(number);
+        int bytes = 7 + 4 * lots.upTo(3);
+        StringBuilder text = new StringBuilder();
+        for (int i = 0; i < bytes; i++) text.append(i % 4 == 3 ? ';' : (char) ('0' + lots.upTo(9)));
+        DogJudge x = heirs(text.toString());
+        for (int i = 0; i < 24; i++) x.visit(lots.upTo(i % 3 == 0 ? 29 : 9), lots.upTo(5), lots.upTo(2));
+        for (int i = 0; i < 6; i++) x.taste(i / 3, i % 3, lots.upTo(4));
+        for (int what = 0; what < 3; what++) x.set(what, lots.upTo(6));
+        if (number % 2 == 0) x.seen(lots.upTo(9), lots.upTo(2));
+        if (number % 3 == 0) x.set(3, lots.upTo(ALL_DAYS) & lots.upTo(ALL_DAYS));
+        return x;
     }
 
     private static long digestByHand(DogJudge x) {
