@@ -292,6 +292,15 @@ public final class PromiseTest {
         due(0, x.back());
         due(NOT, x.back());
         due(0, x.liking(0, 29, 0));
+        DogJudge y = come(heirs("123"), 5, 0, STICK, 6, 0, COAT, 7, 0, STICK, 1, 0, COAT);
+        due(3, y.back());
+        due(0, y.liking(0, 4, 0));
+        due(3, y.liking(0, 5, 0));
+        due(5, y.liking(0, 6, 0));
+        due(8, y.liking(0, 7, 0));
+        for (int i = 4; i <= 24; i++) y.visit(24 - i, 0, SAUSAGE);
+        for (int left = 23; left >= 3; left--) due(left, y.back());
+        due(8, y.liking(0, 29, 0));
     }
 
     private static void read() {
@@ -719,6 +728,7 @@ public final class PromiseTest {
         // Against a coat (5): a coat (5) is found never, a stick by 450 of the tastes (nobody by 10).
         DogJudge x = come(heirs("050;055"), 0, 0, COAT);
         due(2, x.tells(0, 1));
+        due(2, x.tells(3, 1));
         x.set(3, 1);
         due(0, x.tells(0, 1));
         x.set(3, 0);
@@ -726,6 +736,8 @@ public final class PromiseTest {
         DogJudge y = come(heirs("011;000"), 0, 0, COAT);
         y.seen(0, NONE);
         due(2, y.tells(1, 0));
+        // By heir 5's sausage it is found by 900 of the tastes, by its stick by 450 and heir 4 by 540.
+        due(2, come(heirs("000;000;000;000;010;901"), 0, 4, COAT).tells(0, 5));
         // Where nothing explains what was seen, each thing is as good.
         y.seen(0, 0);
         due(0, y.tells(1, 0));
@@ -862,6 +874,10 @@ public final class PromiseTest {
         // Seed -1 draws 1 stick first: upper bits are a number from 0 on.
         due(1, x.weeks(-1, 1, NONE));
         due(0, x.weeks(LEAST, 1, NONE));
+        due(4, heirs("111;111;111;111;111;111").weeks(987654321, 1, NONE));
+        due(1, heirs("111;111;111;111;111;111").weeks(-123456789, 1, NONE));
+        due(5, heirs("111;111;111;111;111;111").weeks(2147483647, 1, NONE));
+        due(0, heirs("111;111;111;111;111;111").weeks(1048576, 1, NONE));
         due(0, x.count(2));
         // Seed 5 draws 1 stick, 0 stick: also for a day on which it sleeps.
         x.set(3, 1);
@@ -1083,6 +1099,15 @@ public final class PromiseTest {
         x.set(3, 4);
         x.set(2, 1);
         due(digestByHand(x), x.digest());
+        // Here it is heard best on another day by 5 sixteenths, and by 3.
+        DogJudge more = come(heirs("479;981"), 3, 1, 0, 3, 0, 1, 2, 0, 2, 3, 1, 0, 1, 0, 1, 4, 0, 1, 3, 1, 1, 3, 0, 1);
+        more.set(0, 2);
+        more.set(2, 2);
+        due(digestByHand(more), more.digest());
+        DogJudge less = come(heirs("202;771"), 1, 1, 2, 2, 0, 0, 4, 1, 1, 0, 0, 0, 2, 1, 0, 3, 0, 0, 0, 0, 2);
+        less.set(0, 0);
+        less.set(2, 3);
+        due(digestByHand(less), less.digest());
         for (int state = 0; state < 200; state++) {
             DogJudge y = someState(state);
             due(digestByHand(y), y.digest());
