@@ -35,6 +35,8 @@ public final class ChancesSentencesTest extends Sentences {
             dueChance(0, 1, heirs(SIX_HEIRS), 4, 5, 0);
         });
         sentence(25, "With a FAULT there are none.", () -> due(LONG_BAD, heirs("010;").chance(4, 0, 0, 0)));
+        sentence(25, "(A refusal -x is the least long and x more.)", () ->
+            due(LONG_BAD, new DogJudge().chance(0, 0, 0, 0)));
         sentence(25, "Where the answer is a long, a refusal -x is the least long and x more.", () ->
             due(Long.MIN_VALUE + 2, heirs("010").chance(17, 0, 0, 0)));
     }
@@ -90,6 +92,13 @@ public final class ChancesSentencesTest extends Sentences {
     }
 
     private static void whoIsHeard() {
+        sentence(26, "HEARD. BAD.", () -> {
+            DogJudge x = heirs("010");
+            due(0, x.heard(0, 0, 0, 0));
+            due(0, x.heard(16, 0, 2, 9));
+            due(BAD, x.heard(-1, -1, -1, -1));
+            due(BAD, x.heard(17, 1, 3, 10));
+        });
         sentence(26, "BAD -2 (a number not as told, no such thing)", () -> {
             DogJudge x = heirs("010");
             int[] wrongs = {-1, LEAST, MOST};

@@ -39,6 +39,14 @@ public final class FindingsSentencesTest extends Sentences {
             due(BAD, x.liking(0, LEAST, 0));
             due(BAD, x.liking(0, MOST, 0));
         });
+        sentence(12, "LIKING. BAD.", () -> {
+            DogJudge x = come(heirs("010"), 0, 0, COAT);
+            due(1, x.liking(0, 0, 0));
+            due(1, x.liking(1, 29, 0));
+            due(BAD, x.liking(2, 30, 1));
+            due(BAD, x.liking(-1, -1, -1));
+            due(BAD, x.liking(0, 0, 1));
+        });
         sentence(12, "BAD -2 (a number not as told, no such thing)", () -> {
             DogJudge x = come(heirs("111;222"), 0, 1, COAT);
             due(2, x.liking(0, 0, 1));
@@ -304,6 +312,10 @@ public final class FindingsSentencesTest extends Sentences {
             due(9, odd.share(29, 0, 0));
             due(17, odd.share(29, 0, 1));
         });
+        sentence(14, "(A refusal -x is the least long and x more.)", () -> {
+            due(LONG_BAD, heirs("010").share(0, 1, 0));
+            due(LONG_NOT, heirs("010").share(0, 0, 1));
+        });
         sentence(14, "Where the answer is a long, a refusal -x is the least long and x more.", () -> {
             DogJudge x = heirs("010");
             due(Long.MIN_VALUE + 2, x.share(30, 0, 0));
@@ -411,6 +423,14 @@ public final class FindingsSentencesTest extends Sentences {
             first.taste(1, COAT, 0);
             due(0, first.dissent());
             due(0, new DogJudge().dissent());
+        });
+        sentence(16, "DISSENT: DAYS behind which both DOGS FIND unlike, as bits.", () -> {
+            // 0 and 1 are found from day 0 on; on days 2 to 4 both find 1.
+            DogJudge x = set(come(heirs("040;003"), 0, 0, COAT, 0, 1, STICK, 2, 1, STICK, 5, 0, COAT), HABIT, 0);
+            x.taste(1, STICK, 2);
+            due(0b11, x.dissent() & 0b11);
+            due(0b00, x.dissent() & 0b11100);
+            due(ALL_DAYS ^ 0b11100, x.dissent());
         });
         sentence(16, "With a FAULT there are none.", () -> {
             DogJudge x = come(heirs("010;"), 0, 0, COAT);

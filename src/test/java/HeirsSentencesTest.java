@@ -134,6 +134,17 @@ public final class HeirsSentencesTest extends Sentences {
             due(6, x.count(0));
             due(NONE, x.fault());
         });
+        sentence(2, "BAD; FULL.", () -> {
+            DogJudge x = new DogJudge();
+            due(BAD, x.type(300));
+            for (int i = 0; i < 23; i++) x.type(';');
+            due(BAD, x.type(300));
+            due(FULL, x.type(30));
+            // With a fault it is full by 23 bytes, too, and wiped it is not.
+            due(0, x.fault());
+            x.wipe();
+            due(1, x.type(30));
+        });
         sentence(2, "Refusals, the first that fits, in the order told at each act", () -> {
             DogJudge x = heirs(SIX_HEIRS);
             due(BAD, x.type(-1));
@@ -303,6 +314,15 @@ public final class HeirsSentencesTest extends Sentences {
             due(BAD, x.good(1, -1));
             due(BAD, x.good(1, LEAST));
             due(BAD, x.good(1, MOST));
+        });
+        sentence(6, "How GOOD a THING of an HEIR is. BAD.", () -> {
+            DogJudge x = heirs("105");
+            due(1, x.good(0, SAUSAGE));
+            due(0, x.good(0, COAT));
+            due(5, x.good(0, STICK));
+            due(BAD, x.good(-1, -1));
+            due(BAD, x.good(1, 3));
+            due(BAD, x.good(3, 0));
         });
         sentence(6, "BAD -2 (a number not as told, no such thing)", () -> {
             due(BAD, new DogJudge().good(0, 0));

@@ -5,6 +5,7 @@ public final class SeenSentencesTest extends Sentences {
         forget();
         tastes();
         rowsOfTaste();
+        seenInSleep();
         tells();
         bestThing();
         dayOfTheThing();
@@ -42,6 +43,14 @@ public final class SeenSentencesTest extends Sentences {
             due(BAD, x.seen(30, 0));
             due(BAD, x.seen(LEAST, 0));
             due(BAD, x.seen(MOST, 0));
+        });
+        sentence(20, "SEEN more: how many. BAD; FULL.", () -> {
+            DogJudge x = new DogJudge();
+            due(BAD, x.seen(-1, -2));
+            due(BAD, x.seen(30, 6));
+            for (int i = 1; i <= 8; i++) due(i, x.seen(29, 5));
+            due(FULL, x.seen(29, 5));
+            due(BAD, x.seen(30, 6));
         });
         sentence(20, "Refusals, the first that fits, in the order told at each act", () -> {
             DogJudge x = new DogJudge();
@@ -151,6 +160,32 @@ public final class SeenSentencesTest extends Sentences {
             x.seen(5, 2);
             due(1, x.tastes(0));
             due(999, x.tastes(1));
+        });
+    }
+
+    private static void seenInSleep() {
+        sentence(22, "What is brought by who is not there, or on a DAY that it SLEEPS, does not count.", () -> {
+            DogJudge x = come(heirs("010"), 0, 0, COAT, 29, 0, COAT, 1, 1, COAT);
+            x.seen(0, NONE);
+            x.seen(29, 0);
+            due(0, x.tastes(0));
+            x.set(SLEEPS, 1);
+            due(900, x.tastes(0));
+            due(10, x.tastes(1));
+            x.set(SLEEPS, 1 | 1 << 29);
+            due(0, x.tastes(0));
+            x.forget();
+            x.seen(29, NONE);
+            due(1000, x.tastes(0));
+        });
+        sentence(24, "What is brought by who is not there, or on a DAY that it SLEEPS, does not count.", () -> {
+            DogJudge x = come(heirs("090;000"), 0, 0, COAT, 0, 2, COAT);
+            x.seen(0, 1);
+            due(0, x.trainer());
+            x.set(SLEEPS, 1);
+            due(2, x.trainer());
+            x.set(SLEEPS, 2);
+            due(0, x.trainer());
         });
     }
 
@@ -264,6 +299,19 @@ public final class SeenSentencesTest extends Sentences {
             DogJudge two = heirs("000;000");
             two.seen(0, 2);
             due(0, two.trainer());
+        });
+        sentence(24, "TRAINER, as bits.", () -> {
+            // By two nights of 2 heir 0 or 1 comes up to a coat of 4 of heir 2; 0 and 1 are less than 2.
+            DogJudge x = come(heirs("000;000;040"), 0, 2, COAT);
+            x.seen(1, 2);
+            due(0b1000111, x.trainer());
+            x.seen(2, 2);
+            due(0b1000100, x.trainer());
+            x.seen(2, 1);
+            due(0, x.trainer());
+            x.forget();
+            x.seen(2, 1);
+            due(0b0000010, x.trainer());
         });
         sentence(24, "With a FAULT there are none.", () -> {
             DogJudge x = heirs("000;000;");

@@ -7,6 +7,7 @@ public final class SheetsSentencesTest extends Sentences {
         put();
         lowestBits();
         get();
+        findings();
         copy();
         copyNothing();
         write();
@@ -217,6 +218,58 @@ public final class SheetsSentencesTest extends Sentences {
         });
     }
 
+    private static void findings() {
+        sentence(29, "1 NULL: the SHEET is LOST", () -> {
+            DogJudge x = items(items(new DogJudge(), 0, 0, 1), 1, 0, 2);
+            for (int s = 0; s < 4; s++) {
+                x.lose(s);
+                due(NULL, x.lose(s));
+                due(NULL, x.read(s));
+                due(NULL, x.write(1, s));
+                due(NULL, x.put(s, 2, 0, 0));
+                due(LEAST, x.get(s, 2, 0));
+                due(NULL, x.copy(s, 0, s, 0, 0));
+                due(1, x.count(8));
+                items(x, s, 2, 5);
+                due(5, x.get(s, 2, 0));
+            }
+        });
+        sentence(30, "3 CAST: it has another FORM", () -> {
+            for (int form = 0; form < 3; form++) {
+                for (int as = 0; as < 3; as++) {
+                    DogJudge x = items(new DogJudge(), 0, form, 5);
+                    due(as == form ? 1 : CAST, x.put(0, as, 0, 6));
+                    due(as == form ? 6 : LEAST, x.get(0, as, 0));
+                    due(as == form ? 0 : 3, x.count(8));
+                    due(as == form ? 6 : 5, x.get(0, form, 0));
+                }
+            }
+        });
+        sentence(32, "4 STORE: unlike FORMS", () -> {
+            for (int form = 0; form < 3; form++) {
+                for (int other = 0; other < 3; other++) {
+                    DogJudge x = items(items(new DogJudge(), 0, form, 5), 1, other, 6);
+                    due(other == form ? 1 : STORE, x.copy(0, 0, 1, 0, 1));
+                    due(other == form ? 0 : 4, x.count(8));
+                    due(other == form ? 5 : 6, x.get(1, other, 0));
+                }
+            }
+        });
+        sentence(34, "FINDINGS (answers -10 less the number; they change nothing but count() 8)", () -> {
+            DogJudge x = items(items(new DogJudge(), 0, 0, 1), 1, 1, 1);
+            due(-11, x.lose(2));
+            due(1, x.count(8));
+            due(-12, x.put(0, 0, 1, 0));
+            due(2, x.count(8));
+            due(-13, x.put(0, 1, 0, 0));
+            due(3, x.count(8));
+            due(-14, x.copy(0, 0, 1, 0, 1));
+            due(4, x.count(8));
+            due(-15, x.sheet(0, 0, -1));
+            due(5, x.count(8));
+        });
+    }
+
     private static void copy() {
         sentence(32, "BAD: the SHEETS; NULL: s, t; STORE;", () -> {
             DogJudge x = items(items(new DogJudge(), 0, 0, 1, 2), 1, 1, 3, 4);
@@ -424,6 +477,23 @@ public final class SheetsSentencesTest extends Sentences {
             for (long one : all) h = 31 * h + one;
             due(h, x.digest());
         });
+        sentence(35, "of DAYS 0, 1, 9, 29 found(0, it), found(1, it)", () -> {
+            // Found first on one of these days it tells, on the day ahead of it or behind it as well.
+            for (int day = 0; day < 30; day++) {
+                DogJudge x = set(come(heirs("000;001"), day, 1, STICK), FADES, 9);
+                x.taste(1, STICK, 0);
+                due(digestByHand(x), x.digest());
+                x.taste(1, STICK, 1);
+                due(digestByHand(x), x.digest());
+            }
+        });
+        sentence(35, "(of each thing all that is told of it, then of the next one)", () -> {
+            DogJudge x = come(heirs("123;456;050"), 0, 0, SAUSAGE, 3, 1, COAT, 5, 2, COAT, 5, 0, COAT, 9, 0, COAT);
+            due(digestByHand(x), x.digest());
+            DogJudge full = fullOfVisits(come(heirs(SIX_HEIRS), 0, 5, COAT, 1, 4, COAT, 2, 3, STICK, 4, 0, SAUSAGE));
+            full.seen(29, 0);
+            due(digestByHand(full), full.digest());
+        });
         sentence(35, "as longs that wrap", () -> {
             // Of 29 numbers and more the powers of 31 are far above the greatest long.
             DogJudge x = new DogJudge();
@@ -431,5 +501,22 @@ public final class SheetsSentencesTest extends Sentences {
             due(8501129970606130731L, x.digest());
             due(0, x.count(8));
         });
+    }
+
+    private static long digestByHand(DogJudge x) {
+        long h = 17;
+        for (int what = 0; what < 8; what++) h = 31 * h + x.count(what);
+        h = 31 * h + x.fault();
+        for (int it = 0; it < x.count(0); it++) {
+            for (int thing = 0; thing < 3; thing++) h = 31 * h + x.good(it, thing);
+            long[] ofHeir = {x.liking(0, 9, it), x.liking(1, 29, it), x.share(5, it, 0), x.share(5, it, 1),
+                x.suit(it, 4, NONE), x.suit(it, 4, 0), x.chance(4, it, 5, 0), x.chance(4, it, 5, 1), x.weeks(7, 9, it)};
+            for (long one : ofHeir) h = 31 * h + one;
+        }
+        for (int day : new int[] {0, 1, 9, 29}) h = 31 * (31 * h + x.found(0, day)) + x.found(1, day);
+        long[] rest = {x.quarrel(0), x.quarrel(1), x.dissent(), x.changes(), x.replies(0, 1, 3, 0), x.replies(0, 1, 3, 1),
+            x.tastes(0), x.tastes(1), x.tells(3, 0), x.trainer(), x.heard(4, 0, 0, 4), x.weeks(7, 9, NONE)};
+        for (long one : rest) h = 31 * h + one;
+        return h;
     }
 }

@@ -4,9 +4,11 @@ public final class SuitsSentencesTest extends Sentences {
         whoseSuit();
         fewestVisits();
         leastRow();
+        suitsInSleep();
         whoseTurns();
         lengthOfTurns();
         bestTurns();
+        turnsInSleep();
         end();
     }
 
@@ -127,6 +129,38 @@ public final class SuitsSentencesTest extends Sentences {
         });
     }
 
+    private static void suitsInSleep() {
+        sentence(18, "What is brought by who is not there, or on a DAY that it SLEEPS, does not count.", () -> {
+            DogJudge x = set(come(heirs("010;030"), 0, 1, COAT, 0, 2, COAT), HABIT, 0);
+            dueSuit(x, 0, 1, 3, 1, 1, 1);
+            dueSuit(set(x, SLEEPS, 2), 0, 1, 3, 1, 1, 1);
+            dueSuit(set(x, SLEEPS, 1), 0, 1, 1, 4, NONE, NONE);
+            dueSuit(x, 1, 1, 1, 4, NONE, NONE);
+            dueSuit(set(x, SLEEPS, 3), 0, 1, NONE, NONE, NONE, NONE);
+            dueSuit(set(x, SLEEPS, ALL_DAYS), 1, 9, NONE, NONE, NONE, NONE);
+        });
+    }
+
+    private static void turnsInSleep() {
+        sentence(19, "What is brought by who is not there, or on a DAY that it SLEEPS, does not count.", () -> {
+            DogJudge x = come(heirs("010;090"), 0, 2, COAT);
+            due(0, x.replies(0, 1, 2, 0));
+            // The other one's day is slept through, then the first one's.
+            x.set(SLEEPS, 2);
+            due(1, x.replies(0, 1, 2, 0));
+            due(1, x.replies(0, 1, 2, 1));
+            x.set(SLEEPS, 1);
+            due(0, x.replies(0, 1, 2, 0));
+            due(NONE, x.replies(0, 1, 1, 1));
+            // What is told of a day that is slept through is no help, either.
+            DogJudge y = set(come(heirs("090;010;050"), 0, 2, COAT), SLEEPS, 1);
+            due(1, y.replies(0, 1, 3, 0));
+            due(0, y.replies(1, 0, 3, 0));
+            due(0, y.replies(0, 1, 1, 0));
+            due(0, y.replies(0, 1, 2, 0));
+        });
+    }
+
     private static void whoseTurns() {
         sentence(19, "TURNS: 1, 0 (what = 0), what the first one brings (1; NONE). BAD: also one HEIR twice.", () -> {
             DogJudge x = heirs("010;020");
@@ -201,6 +235,14 @@ public final class SuitsSentencesTest extends Sentences {
             // The other one does best by bringing nothing: it fades, and heir 2 is found, to stay of like ones.
             DogJudge y = set(come(heirs("060;090;060"), 0, 1, COAT, 1, 2, COAT, 2, 2, STICK), HABIT, 9, FADES, 5);
             due(0, y.replies(0, 1, 3, 0));
+        });
+        sentence(19, "whether it is, both doing their best: 1, 0", () -> {
+            // By a sausage of 2 on day 0 the other's of day 1 is 3, not 6; 2 for a coat is less.
+            due(1, heirs("220;300").replies(0, 1, 2, 0));
+            due(0, heirs("220;300").replies(0, 1, 2, 1));
+            due(0, heirs("220;500").replies(0, 1, 2, 0));
+            due(0, heirs("220;030").replies(0, 1, 2, 1));
+            due(0, heirs("220;050").replies(0, 1, 2, 0));
         });
         sentence(19, "told behind all others of its DAY", () -> {
             // Ahead of the other's sausage (4) its own would be 6; behind it, it is 3.

@@ -2,6 +2,7 @@
 public final class VisitsSentencesTest extends Sentences {
     public static void main(String[] args) {
         taste();
+        tasteOfBoth();
         set();
         sleeps();
         visit();
@@ -40,6 +41,20 @@ public final class VisitsSentencesTest extends Sentences {
             due(BAD, x.taste(0, COAT, LEAST));
             due(BAD, x.taste(0, COAT, MOST));
             due(9, x.taste(0, COAT, 9));
+        });
+    }
+
+    private static void tasteOfBoth() {
+        sentence(7, "TASTE: what it was. BAD.", () -> {
+            DogJudge x = new DogJudge();
+            due(1, x.taste(0, 0, 9));
+            due(1, x.taste(1, 0, 0));
+            due(9, x.taste(0, 0, 3));
+            due(0, x.taste(1, 0, 3));
+            due(3, x.taste(0, 0, 3));
+            due(BAD, x.taste(2, 3, 10));
+            due(BAD, x.taste(-1, -1, -1));
+            due(3, x.taste(1, 0, 0));
         });
     }
 
@@ -140,6 +155,16 @@ public final class VisitsSentencesTest extends Sentences {
             due(23, x.back());
             due(24, x.visit(0, 0, 0));
             due(FULL, x.visit(0, 0, 0));
+        });
+        sentence(9, "A VISIT more: how many. BAD; FULL.", () -> {
+            DogJudge x = new DogJudge();
+            due(BAD, x.visit(-1, -1, -1));
+            due(BAD, x.visit(30, 6, 3));
+            due(1, x.visit(29, 5, 2));
+            due(2, x.visit(29, 5, 2));
+            fullOfVisits(x);
+            due(FULL, x.visit(29, 5, 2));
+            due(BAD, x.visit(30, 6, 3));
         });
         sentence(9, "Refusals, the first that fits, in the order told at each act", () -> {
             DogJudge x = fullOfVisits(new DogJudge());
