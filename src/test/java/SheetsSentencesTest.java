@@ -493,6 +493,15 @@ public final class SheetsSentencesTest extends Sentences {
             DogJudge full = fullOfVisits(come(heirs(SIX_HEIRS), 0, 5, COAT, 1, 4, COAT, 2, 3, STICK, 4, 0, SAUSAGE));
             full.seen(29, 0);
             due(digestByHand(full), full.digest());
+            // A quarrel of day 2 with day 0; then days on which it is best to be heard that differ by chance and day.
+            DogJudge y = come(heirs("010;030"), 0, 0, COAT, 1, 1, COAT, 2, 0, COAT);
+            due(digestByHand(y), y.digest());
+            DogJudge more = come(heirs("479;981"), 3, 1, 0, 3, 0, 1, 2, 0, 2, 3, 1, 0, 1, 0, 1, 4, 0, 1, 3, 1, 1, 3, 0, 1);
+            set(more, HABIT, 2, FADES, 2);
+            due(digestByHand(more), more.digest());
+            DogJudge less = come(heirs("202;771"), 1, 1, 2, 2, 0, 0, 4, 1, 1, 0, 0, 0, 2, 1, 0, 3, 0, 0, 0, 0, 2);
+            set(less, HABIT, 0, FADES, 3);
+            due(digestByHand(less), less.digest());
         });
         sentence(35, "as longs that wrap", () -> {
             // Of 29 numbers and more the powers of 31 are far above the greatest long.
