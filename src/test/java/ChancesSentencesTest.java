@@ -152,6 +152,11 @@ public final class ChancesSentencesTest extends Sentences {
             due(1, x.heard(4, 0, SAUSAGE, 9));
             due(1, x.count(2));
         });
+        sentence(26, "VISITS, 24 at most (0 on)", () -> {
+            DogJudge x = fullOfVisits(set(heirs("020"), FADES, 2));
+            due(5, x.heard(4, 0, COAT, 5));
+            due(24, x.count(2));
+        });
         sentence(26, "(0 to 16), by itself, in place of what is told", () -> {
             due(0, set(heirs("010"), SLEEPS, 1).heard(4, 0, COAT, 3));
             due(1, set(come(heirs("010"), 0, 0, COAT), SLEEPS, 2).heard(4, 0, COAT, 3));

@@ -261,6 +261,11 @@ public final class SeenSentencesTest extends Sentences {
             due(2, x.tells(4, 1));
             due(2, x.count(2));
         });
+        sentence(23, "VISITS, 24 at most (0 on)", () -> {
+            DogJudge x = fullOfVisits(heirs("001"));
+            due(2, x.tells(0, 0));
+            due(24, x.count(2));
+        });
         sentence(23, "behind that DAY", () -> {
             // What was seen of day 0 and of later days is not lived twice; the coat of day 2 is not yet there.
             DogJudge x = set(come(heirs("010;101"), 0, 0, COAT, 2, 0, COAT), HABIT, 0);

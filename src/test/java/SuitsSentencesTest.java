@@ -256,6 +256,14 @@ public final class SuitsSentencesTest extends Sentences {
             x.set(HUNGER, 2);
             due(0, x.replies(0, 1, 3, 0));
         });
+        sentence(19, "VISITS, 24 at most (0 on)", () -> {
+            // What comes by turns is not told, so it needs no room.
+            DogJudge x = fullOfVisits(heirs("020;030"));
+            due(1, x.replies(0, 1, 1, 0));
+            due(1, x.replies(0, 1, 1, 1));
+            due(0, x.replies(0, 1, 2, 0));
+            due(24, x.count(2));
+        });
         sentence(19, "the other one that it is not", () -> {
             // The other one can't be found, but by its sausage of no good heir 0's of day 2 is 3 to 5.
             DogJudge x = set(come(heirs("300;050;000"), 1, 1, COAT), SLEEPS, 1);
