@@ -194,8 +194,8 @@ public final class DogJudge {
     public int suit(int heir, int day, int i) {
         if (!heirs.has(heir) || !isSearchDay(day) || i < NONE || i >= SUIT_MOST) return BAD;
         for (int many = 0; many <= SUIT_MOST; many++) {
-            suits.begin(tastes[JUDGE], heir, day);
-            if (suits.seek(0, 0, many)) {
+            suits.plead(tastes[JUDGE], heir, day);
+            if (Suits.seek(suits, 0, 0, many)) {
                 if (i == NONE) return many;
                 return i < many ? suits.row[i] : NONE;
             }
@@ -770,7 +770,7 @@ public final class DogJudge {
             this.court = court;
         }
 
-        void begin(int[] tastes, int suitor, int day) {
+        void plead(int[] tastes, int suitor, int day) {
             heir = suitor;
             lastDay = day;
             Mood mood = court.moods[0];
@@ -783,11 +783,12 @@ public final class DogJudge {
          * less than code. The mood of this depth stands on the day of code, its visits told.
          * The least code is tried first, so that the first row which is found is the least one.
          */
-        private boolean seek(int depth, int code, int left) {
+        private static boolean seek(Suits suits, int depth, int code, int left) {
+            if (depth + left > SUIT_MOST) return false;
+            Court court = suits.court;
             Mood mood = court.moods[depth];
-            if (left == 0) return isFoundAfter(mood, code / THINGS);
-            if (depth >= SUIT_MOST) return false;
-            for (int next = code; next < (lastDay + 1) * THINGS; next++) {
+            if (left == 0) return suits.isFoundAfter(mood, code / THINGS);
+            for (int next = code; next < (suits.lastDay + 1) * THINGS; next++) {
                 int day = next / THINGS;
                 if (next > code && next % THINGS == 0) {
                     court.evening(mood);
@@ -795,10 +796,10 @@ public final class DogJudge {
                 }
                 // A visit that does not count is never among the fewest.
                 if (!court.isAwake(day)) continue;
-                row[depth] = next;
+                suits.row[depth] = next;
                 court.moods[depth + 1].become(mood);
-                court.bring(court.moods[depth + 1], day, heir, next % THINGS);
-                if (seek(depth + 1, next, left - 1)) return true;
+                court.bring(court.moods[depth + 1], day, suits.heir, next % THINGS);
+                if (seek(suits, depth + 1, next, left - 1)) return true;
             }
             return false;
         }
@@ -879,28 +880,29 @@ public final class DogJudge {
             moreDay = onDay;
             moreThing = thing;
             court.moods[0].begin(tastes, NONE);
-            return weighFrom(0);
+            return weighFrom(this, 0);
         }
 
-        private long weighFrom(int day) {
+        private static long weighFrom(Chances chances, int day) {
+            Court court = chances.court;
             Mood ahead = court.moods[day];
-            if (day > lastDay) return ahead.found == heir ? 1 : 0;
+            if (day > chances.lastDay) return ahead.found == chances.heir ? 1 : 0;
             Mood mood = court.moods[day + 1];
             // Where nobody comes, it is all one whether it sleeps.
-            boolean comes = day == moreDay || court.comersOn(day) > 0;
-            int asleep = comes ? sleepy : SIXTEENTHS;
+            boolean comes = day == chances.moreDay || court.comersOn(day) > 0;
+            int asleep = comes ? chances.sleepy : SIXTEENTHS;
             long weight = 0;
             if (asleep > 0) {
                 mood.become(ahead);
                 court.evening(mood);
-                weight += asleep * weighFrom(day + 1);
+                weight += asleep * weighFrom(chances, day + 1);
             }
             if (asleep < SIXTEENTHS) {
                 mood.become(ahead);
                 court.comeAsTold(mood, day);
-                if (day == moreDay) court.bring(mood, day, heir, moreThing);
+                if (day == chances.moreDay) court.bring(mood, day, chances.heir, chances.moreThing);
                 court.evening(mood);
-                weight += (SIXTEENTHS - asleep) * weighFrom(day + 1);
+                weight += (SIXTEENTHS - asleep) * weighFrom(chances, day + 1);
             }
             return weight;
         }
