@@ -25,8 +25,8 @@ public final class LanguageTest {
     private static final Pattern METHOD = Pattern.compile("^( {4}| {8})((?:(?:public|private|static) )*)"
         + "(?:[A-Za-z]+(?:\\[\\])* )?([A-Za-z]+)\\(([^)]*)\\) \\{$");
     private static final Pattern CALL = Pattern.compile("([A-Za-z]+)\\(");
-    private static final Set<String> LIBRARY = Set.of("Math.max", "Math.min", "System.arraycopy",
-        "Integer.MIN_VALUE", "Long.MIN_VALUE");
+    private static final Set<String> LIBRARY = Set.of("Math.max", "Math.min", "Math.abs", "Math.floorDiv", "Math.floorMod",
+        "Integer.bitCount", "Integer.MIN_VALUE", "Long.MIN_VALUE", "System.arraycopy", "Arrays.fill", "Arrays.copyOf");
     private static final int LINES_MOST = 60, PARAMETERS_MOST = 7, DEEP_MOST = 8, CLASSES_MOST = 12, FIELDS_MOST = 20;
 
     private static int wrong = 0;
